@@ -693,7 +693,9 @@ public final class OvertakingLoads {
                 }
                 return false;
             }
-            findSources(number);
+            for (int k = 0; k < load.bytes; k++) {
+                load.sources[k] = sourceOf(number, load.address + k);
+            }
             if (!sourcesAreReady(load)) {
                 return false;
             }
@@ -711,13 +713,7 @@ public final class OvertakingLoads {
             return settings[GUESS] == ALWAYS_WAIT;
         }
 
-        private void findSources(int number) {
-            Act load = acts[number];
-            for (int k = 0; k < load.bytes; k++) {
-                load.sources[k] = sourceOf(number, load.address + k);
-            }
-        }
-
+        /** The latest store ahead in the queue that is known to have the byte, or the memory. */
         private int sourceOf(int load, int address) {
             for (int i = load - 1; i >= head; i--) {
                 Act act = acts[i];
@@ -752,7 +748,9 @@ public final class OvertakingLoads {
                 } else {
                     value |= acts[from].byteOf(at) << 8 * k;
                     forwarded++;
-                    fromAwaited |= (load.tableWaits >> from & 1) != 0;
+                    if ((load.tableWaits >> from & 1) != 0) {
+                        fromAwaited = true;
+                    }
                 }
             }
             load.value = value;

@@ -153,17 +153,14 @@ public final class AheadTest {
     }
 
     private static void shorterAndSooner() {
-        // With a queue of 2 the load is issued when the store is written already, and is not done again.
-        OvertakingLoads x = machine("s0:1=1/1;s9:1=1;l0:1");
-        int[] beats = new int[17];
-        for (int queue = 1; queue <= 16; queue++) {
-            x.set(0, queue);
-            beats[queue] = x.doneIn();
+        // With a queue of 2 the second load is issued when the store's address is known, and is not too early.
+        OvertakingLoads x = machine("l2:1/2;s2:1=1/3;l2:1");
+        int[] queues = {1, 2, 3, 16};
+        int[] beats = {9, 5, 6, 6};
+        for (int i = 0; i < queues.length; i++) {
+            x.set(0, queues[i]);
+            Check.due("a queue of " + queues[i], x.doneIn(), beats[i]);
         }
-        int least = 1;
-        while (beats[least] > beats[16]) {
-            least++;
-        }
-        Check.due("leastQueue", x.leastQueue(), least);
+        Check.due("sooner is as soon, too", x.leastQueue(), 2);
     }
 }
