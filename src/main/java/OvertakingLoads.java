@@ -309,8 +309,8 @@ public final class OvertakingLoads {
         for (int queue = shortest; queue < longest; queue++) {
             prepareTrial(QUEUE, queue);
             int beats = trial.runOut();
-            // A shorter queue can be sooner, too: it keeps loads from being too early.
-            if (beats != NONE && beats <= goal) {
+            // A shorter queue can be sooner, as it keeps loads from being too early: that is not as soon.
+            if (beats == goal) {
                 return queue;
             }
         }

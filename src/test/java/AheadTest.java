@@ -14,6 +14,7 @@ public final class AheadTest {
         leastQueue();
         leastQueueHoldsWhatIsInIt();
         shorterAndSooner();
+        soonerInTheMiddle();
         Check.end("AheadTest");
     }
 
@@ -155,12 +156,25 @@ public final class AheadTest {
     private static void shorterAndSooner() {
         // With a queue of 2 the second load is issued when the store's address is known, and is not too early.
         OvertakingLoads x = machine("l2:1/2;s2:1=1/3;l2:1");
-        int[] queues = {1, 2, 3, 16};
-        int[] beats = {9, 5, 6, 6};
+        dueBeats(x, new int[] {1, 2, 3, 4, 16}, new int[] {9, 5, 6, 6, 6});
+        Check.due("sooner is another thing than as soon", x.leastQueue(), 3);
+    }
+
+    /** Queues that are as soon as 16 lie on both sides of one that is sooner: the least of all of them is due. */
+    private static void soonerInTheMiddle() {
+        OvertakingLoads x = machine("l1:1/3;s0:1=2/5;l1:1;l0:1/1");
+        dueBeats(x, new int[] {1, 2, 3, 4, 5, 16}, new int[] {14, 9, 8, 9, 9, 9});
+        Check.due("the least that is as soon", x.leastQueue(), 2);
+        x.set(0, 3);
+        x.pass(2);
+        Check.due("acts in the queue", x.count(3) + x.count(4), 3);
+        Check.due("3 is sooner, 2 is too short", x.leastQueue(), 4);
+    }
+
+    private static void dueBeats(OvertakingLoads x, int[] queues, int[] beats) {
         for (int i = 0; i < queues.length; i++) {
             x.set(0, queues[i]);
             Check.due("a queue of " + queues[i], x.doneIn(), beats[i]);
         }
-        Check.due("sooner is as soon, too", x.leastQueue(), 2);
     }
 }

@@ -615,7 +615,7 @@ final class Model {
         int least = 16;
         for (int queue = 15; queue >= Math.max(1, now.queue().size()); queue--) {
             int beats = beatsWith(0, queue);
-            least = beats != NONE && beats <= goal ? queue : least;
+            least = beats == goal ? queue : least;
         }
         return least;
     }
