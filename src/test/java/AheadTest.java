@@ -18,13 +18,6 @@ public final class AheadTest {
         Check.end("AheadTest");
     }
 
-    private static OvertakingLoads machine(String text) {
-        OvertakingLoads x = new OvertakingLoads();
-        Check.typeText(x, text);
-        Check.holds("added: " + text, x.addAll() > 0);
-        return x;
-    }
-
     private static void nothingToDo() {
         OvertakingLoads x = new OvertakingLoads();
         for (int i = 0; i < 2; i++) {
@@ -43,15 +36,15 @@ public final class AheadTest {
     }
 
     private static void doneIn() {
-        Check.due("one act", machine("l0:1").doneIn(), 2);
-        Check.due("two", machine("l0:1;s0:1=1").doneIn(), 2);
-        Check.due("two loads", machine("l0:1;l0:1").doneIn(), 3);
-        Check.due("a delay", machine("s0:1=1/20").doneIn(), 22);
-        Check.due("one again", machine("s0:1=1/5;l0:1").doneIn(), 8);
+        Check.due("one act", Rows.machine("l0:1").doneIn(), 2);
+        Check.due("two", Rows.machine("l0:1;s0:1=1").doneIn(), 2);
+        Check.due("two loads", Rows.machine("l0:1;l0:1").doneIn(), 3);
+        Check.due("a delay", Rows.machine("s0:1=1/20").doneIn(), 22);
+        Check.due("one again", Rows.machine("s0:1=1/5;l0:1").doneIn(), 8);
     }
 
     private static void doneInOnTheWay() {
-        OvertakingLoads x = machine("s0:1=1/5;l0:1;s1:1=1/5,9;l1:1");
+        OvertakingLoads x = Rows.machine("s0:1=1/5;l0:1;s1:1=1/5,9;l1:1");
         int due = x.doneIn();
         while (due > 0) {
             Check.due("beats so far", x.count(5) == 4 ? 1 : 0, 0);
@@ -78,7 +71,7 @@ public final class AheadTest {
     }
 
     private static void ifGuessedErrors() {
-        OvertakingLoads x = machine("s0:1=1/5;l0:1");
+        OvertakingLoads x = Rows.machine("s0:1=1/5;l0:1");
         Check.due("guess -1", x.ifGuessed(-1, 0), BAD_VALUE);
         Check.due("guess 3", x.ifGuessed(3, 0), BAD_VALUE);
         Check.due("what -1", x.ifGuessed(0, -1), BAD_VALUE);
@@ -94,7 +87,7 @@ public final class AheadTest {
     }
 
     private static void ifGuessed() {
-        OvertakingLoads x = machine("s0:1=1/5;l0:1");
+        OvertakingLoads x = Rows.machine("s0:1=1/5;l0:1");
         dueGuess(x, 0, 8, 1, 0);
         dueGuess(x, 1, 7, 0, 5);
         dueGuess(x, 2, 8, 1, 0);
@@ -109,7 +102,7 @@ public final class AheadTest {
     }
 
     private static void ifGuessedCountsFromNow() {
-        OvertakingLoads x = machine("s0:1=1/5;l0:1;s1:1=1/0,9;l1:1");
+        OvertakingLoads x = Rows.machine("s0:1=1/5;l0:1;s1:1=1/0,9;l1:1");
         x.pass(4);
         Check.due("waited so far", x.count(10), 3);
         dueGuess(x, 1, 13, 1, 9);
@@ -120,12 +113,12 @@ public final class AheadTest {
     }
 
     private static void bestGuess() {
-        Check.due("all the same", machine("l0:1").bestGuess(), 0);
-        OvertakingLoads waits = machine("s0:1=1/5;l0:1");
+        Check.due("all the same", Rows.machine("l0:1").bestGuess(), 0);
+        OvertakingLoads waits = Rows.machine("s0:1=1/5;l0:1");
         Check.due("waiting is better", waits.bestGuess(), 1);
         waits.setCounter(0, 3);
         Check.due("the table does as well", waits.bestGuess(), 0);
-        OvertakingLoads goes = machine("s0:1=1/5;l1:1;l2:1;l3:1;l4:1;l5:1");
+        OvertakingLoads goes = Rows.machine("s0:1=1/5;l1:1;l2:1;l3:1;l4:1;l5:1");
         Check.due("the table goes, too", goes.bestGuess(), 0);
         goes.setCounter(0, 3);
         Check.due("going is better", goes.bestGuess(), 2);
@@ -134,9 +127,9 @@ public final class AheadTest {
     }
 
     private static void leastQueue() {
-        Check.due("one act", machine("l0:1").leastQueue(), 1);
-        Check.due("two acts", machine("s0:1=1;s1:1=1").leastQueue(), 2);
-        OvertakingLoads x = machine("s0:1=1/5;s1:1=1/4;s2:1=1/3");
+        Check.due("one act", Rows.machine("l0:1").leastQueue(), 1);
+        Check.due("two acts", Rows.machine("s0:1=1;s1:1=1").leastQueue(), 2);
+        OvertakingLoads x = Rows.machine("s0:1=1/5;s1:1=1/4;s2:1=1/3");
         Check.due("three acts", x.leastQueue(), 3);
         x.set(0, 2);
         Check.due("whatever is set", x.leastQueue(), 3);
@@ -144,7 +137,7 @@ public final class AheadTest {
     }
 
     private static void leastQueueHoldsWhatIsInIt() {
-        OvertakingLoads x = machine("s0:1=1/9;s0:1=2;s0:1=3;s0:1=4;l0:1");
+        OvertakingLoads x = Rows.machine("s0:1=1/9;s0:1=2;s0:1=3;s0:1=4;l0:1");
         x.pass(2);
         Check.due("four are in it", x.count(3) + x.count(4), 4);
         Check.due("not less than that", x.leastQueue(), 4);
@@ -155,14 +148,14 @@ public final class AheadTest {
 
     private static void shorterAndSooner() {
         // With a queue of 2 the second load is issued when the store's address is known, and is not too early.
-        OvertakingLoads x = machine("l2:1/2;s2:1=1/3;l2:1");
+        OvertakingLoads x = Rows.machine("l2:1/2;s2:1=1/3;l2:1");
         dueBeats(x, new int[] {1, 2, 3, 4, 16}, new int[] {9, 5, 6, 6, 6});
         Check.due("sooner is another thing than as soon", x.leastQueue(), 3);
     }
 
     /** Queues that are as soon as 16 lie on both sides of one that is sooner: the least of all of them is due. */
     private static void soonerInTheMiddle() {
-        OvertakingLoads x = machine("l1:1/3;s0:1=2/5;l1:1;l0:1/1");
+        OvertakingLoads x = Rows.machine("l1:1/3;s0:1=2/5;l1:1;l0:1/1");
         dueBeats(x, new int[] {1, 2, 3, 4, 5, 16}, new int[] {14, 9, 8, 9, 9, 9});
         Check.due("the least that is as soon", x.leastQueue(), 2);
         x.set(0, 3);

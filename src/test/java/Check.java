@@ -1,7 +1,16 @@
+import java.io.IOException;
+import java.nio.file.Files;
+import java.nio.file.Path;
+
 /** Counts the answers that are not as due and tells them. */
 final class Check {
+    private static final String DOCUMENT = "../shared/DOC.md";
+
     private static int wrong = 0;
     private static int asked = 0;
+    private static int sentences = 0;
+    private static String document = "";
+    private static String sentence = "";
 
     private Check() {
     }
@@ -10,12 +19,31 @@ final class Check {
         asked++;
         if (got != want) {
             wrong++;
-            System.out.println(what + " answered " + got + ", due is " + want);
+            System.out.println(what + " answered " + got + ", due is " + want + sentence);
         }
     }
 
     static void holds(String what, boolean holds) {
         due(what, holds ? 1 : 0, 1);
+    }
+
+    /** What follows tests this sentence, which must stand in the document just so. */
+    static void says(String quote) {
+        if (document.isEmpty()) {
+            document = readDocument();
+        }
+        sentences++;
+        sentence = "";
+        holds("the document says \"" + quote + "\"", document.contains(quote));
+        sentence = ", by \"" + quote + "\"";
+    }
+
+    private static String readDocument() {
+        try {
+            return Files.readString(Path.of(DOCUMENT));
+        } catch (IOException e) {
+            return "nothing, as it can't be read: " + e;
+        }
     }
 
     /** Types a text into the object, which must have room for it. */
@@ -27,7 +55,8 @@ final class Check {
     }
 
     static void end(String name) {
-        System.out.println(name + ": " + asked + " answers, " + wrong + " not as due");
+        String told = sentences == 0 ? "" : sentences + " sentences, ";
+        System.out.println(name + ": " + told + asked + " answers, " + wrong + " not as due");
         if (wrong != 0) {
             System.exit(1);
         }

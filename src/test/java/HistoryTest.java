@@ -77,59 +77,75 @@ public final class HistoryTest {
         Check.due("pass", x.count(13), 4);
     }
 
-    private static void undoRestoresAll() {
+    /** On its way after two beats; each comparison takes one of its own, so that none is asked more than 512 times. */
+    private static OvertakingLoads onItsWay() {
         OvertakingLoads x = new OvertakingLoads();
         x.set(1, 4);
         Check.typeText(x, "s3:1=77/4;l3:1@5;l0:3;s0:2=999;l1:1/1@2;s1:1=3");
         x.addAll();
         x.pass(2);
-        String before = tellAll(x);
+        return x;
+    }
+
+    private static OvertakingLoads atItsEnd() {
+        OvertakingLoads x = onItsWay();
+        x.pass(500);
+        return x;
+    }
+
+    private static void undone(String name, OvertakingLoads x, OvertakingLoads before) {
+        x.undo();
+        Check.holds(name + " undone", tellAll(x).equals(tellAll(before)));
+    }
+
+    private static void undoRestoresAll() {
+        OvertakingLoads x = onItsWay();
         x.pass(3);
-        x.undo();
-        Check.holds("a few beats are undone", tellAll(x).equals(before));
-        x.pass(500);
-        x.undo();
-        Check.holds("many beats are undone", tellAll(x).equals(before));
+        undone("a few beats", x, onItsWay());
+        undone("many beats", atItsEnd(), onItsWay());
+        x = onItsWay();
         x.setCounter(5, 3);
-        x.undo();
-        Check.holds("a counter is undone", tellAll(x).equals(before));
+        undone("a counter", x, onItsWay());
+        x = onItsWay();
         x.set(4, 2);
-        x.undo();
-        Check.holds("a setting is undone", tellAll(x).equals(before));
-        x.pass(500);
-        String end = tellAll(x);
+        undone("a setting", x, onItsWay());
+        x = atItsEnd();
         x.wipe();
-        x.undo();
-        Check.holds("wiping is undone", tellAll(x).equals(end));
+        undone("wiping", x, atItsEnd());
+        x = atItsEnd();
         x.store(9, 1, 9, 0, 0);
-        x.undo();
-        Check.holds("a store is undone", tellAll(x).equals(end));
+        undone("a store", x, atItsEnd());
+        x = atItsEnd();
+        x.addAll();
+        undone("many acts", x, atItsEnd());
+    }
+
+    private static void leave(OvertakingLoads x) {
+        x.pass(30);
+        x.wipe();
+        x.set(0, 1);
+        x.store(1, 1, 1, 0, 0);
     }
 
     private static void keepAndRestore() {
-        OvertakingLoads x = new OvertakingLoads();
-        Check.due("no snapshot", x.restore(), NONE);
-        Check.due("not recorded", x.count(13), 0);
-        x.set(1, 4);
-        Check.typeText(x, "s3:1=77/4;l3:1@5;l0:3;s0:2=999;l1:1/1@2;s1:1=3");
-        x.addAll();
-        x.pass(2);
-        Check.due("keep", x.keep(), 2);
-        String kept = tellAll(x);
-        for (int i = 0; i < 2; i++) {
-            x.pass(30);
-            x.wipe();
-            x.set(0, 1);
-            x.store(1, 1, 1, 0, 0);
-            Check.due("restore", x.restore(), 2);
-            Check.holds("all as it was, and the snapshot stays", tellAll(x).equals(kept));
-        }
-        x.pass(30);
-        Check.due("keep another", x.keep(), 32);
-        kept = tellAll(x);
-        x.wipe();
-        Check.due("restore the other", x.restore(), 32);
-        Check.holds("all as it was then", tellAll(x).equals(kept));
+        OvertakingLoads none = new OvertakingLoads();
+        Check.due("no snapshot", none.restore(), NONE);
+        Check.due("not recorded", none.count(13), 0);
+        OvertakingLoads once = onItsWay();
+        Check.due("keep", once.keep(), 2);
+        leave(once);
+        Check.due("restore", once.restore(), 2);
+        Check.holds("all as it was", tellAll(once).equals(tellAll(onItsWay())));
+        leave(once);
+        Check.due("restore again", once.restore(), 2);
+        Check.holds("the snapshot stays", tellAll(once).equals(tellAll(onItsWay())));
+        OvertakingLoads twice = onItsWay();
+        twice.keep();
+        twice.pass(500);
+        Check.due("keep another", twice.keep(), 502);
+        twice.wipe();
+        Check.due("restore the other", twice.restore(), 502);
+        Check.holds("all as it was then", tellAll(twice).equals(tellAll(atItsEnd())));
     }
 
     private static void restoreIsAnAct() {
