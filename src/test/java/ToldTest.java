@@ -9,6 +9,7 @@ public final class ToldTest {
     public static void main(String[] args) {
         actErrors();
         actTells();
+        againAddsUp();
         sourceAnswers();
         memoryAnswers();
         counterAnswers();
@@ -60,6 +61,28 @@ public final class ToldTest {
         dueAct(x, 1, 0, 7, 1, 2, 2, 4, 2, 1, 0, 3);
         x.pass(1);
         dueAct(x, 1, 0, 7, 1, 2, 3, 4, 2, 1, 0, 3);
+    }
+
+    /** Count 8 and act what 7 have the same words, so over a row that was never wiped they tell of the same. */
+    private static void againAddsUp() {
+        OvertakingLoads x = Rows.wide("s4:1=7/2;s5:1=8/4;l4:2@1;l9:1@2;s9:1=1/3;l9:2@3;l9:1@4");
+        int most = 0;
+        for (int beat = 0; beat < 20; beat++) {
+            int again = 0;
+            for (int act = 0; act < x.count(1); act++) {
+                again += x.act(act, 7);
+            }
+            Check.due("beat " + beat + ", again", again, x.count(8));
+            Check.holds("acts left with those", x.count(9) >= again);
+            most = again;
+            x.pass(1);
+        }
+        Check.due("in the end", most, 3);
+        Check.due("the first load, by each store", x.act(2, 7), 2);
+        Check.due("the one behind it left with it", x.act(3, 7), 0);
+        Check.due("the store as well", x.act(4, 7), 0);
+        Check.due("the last load but one", x.act(5, 7), 1);
+        Check.due("the last load left with it", x.act(6, 7), 0);
     }
 
     private static void sourceAnswers() {
